@@ -22,16 +22,23 @@ final class Check {
         same(what, Long.toString(want), answerOf(call));
     }
 
-    void dueIndex(String what, Call call) {
-        same(what, "throws.IndexOutOfBoundsException", answerOf(call));
+    /** The call throws the exception for a player, place or slot that is not there, and changes nothing. */
+    void dueIndex(String what, SaltMarket x, Call call) {
+        refused(what, "throws.IndexOutOfBoundsException", x, call);
     }
 
-    void dueArgument(String what, Call call) {
-        same(what, "throws.IllegalArgumentException", answerOf(call));
+    void dueArgument(String what, SaltMarket x, Call call) {
+        refused(what, "throws.IllegalArgumentException", x, call);
     }
 
-    void dueState(String what, Call call) {
-        same(what, "throws.IllegalStateException", answerOf(call));
+    void dueState(String what, SaltMarket x, Call call) {
+        refused(what, "throws.IllegalStateException", x, call);
+    }
+
+    private void refused(String what, String want, SaltMarket x, Call call) {
+        String before = View.of(x);
+        same(what, want, answerOf(call));
+        same(what + " changes nothing: it", before, View.of(x));
     }
 
     void same(String what, String want, String got) {
