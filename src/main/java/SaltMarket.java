@@ -21,6 +21,7 @@ public final class SaltMarket {
     private static final int FISH = 1;
     private static final int CLOTH = 2;
     private static final int GREATEST_AMOUNT = 3;
+    private static final int[] LOSING_ORDER = {1, 0, 2};
 
     private static final int SETTINGS = 3;
     private static final int ROUNDS = 0;
@@ -251,7 +252,7 @@ public final class SaltMarket {
         if (!isGood(what)) {
             throw new IllegalArgumentException("what is 0 to 2");
         }
-        return now.hasTurn() ? now.players[p].loss(what, now.weather) : 0;
+        return now.hasTurn() ? now.lossOf(p, what) : 0;
     }
 
     public int goesOn(int what) throws IllegalArgumentException {
@@ -317,7 +318,12 @@ public final class SaltMarket {
         switch (group / 1000) {
             case 1: return isPlace(d2) && isChoice(d2, pair) && trial.putWorker(d2, pair);
             case 2: return group == 2000 && trial.passTurn();
-            case 3: return group == 3000 && trialPlays();
+            case 3:
+                if (group != 3000 || !trial.hasTurn()) {
+                    return false;
+                }
+                trial.playTurn();
+                return true;
             case 4: return trialSets(d2, pair);
             case 5: return trial.hasPlayer(d2) && trial.players[d2].total() >= pair;
             case 6: return isPlace(d2) && d4 == 0 && trial.places[d2].count >= d3;
@@ -326,14 +332,6 @@ public final class SaltMarket {
             case 9: return trial.hasPlayer(d2) && isGood(d3) && trial.players[d2].goods[d3] >= d4;
             default: return false;
         }
-    }
-
-    private boolean trialPlays() {
-        if (!trial.hasTurn()) {
-            return false;
-        }
-        trial.playTurn();
-        return true;
     }
 
     private boolean trialSets(int what, int v) {
@@ -636,6 +634,17 @@ public final class SaltMarket {
             return true;
         }
 
+        /** Sells one after the other, each for its price, which falls by each. */
+        boolean sell(int good, int amount, int price) {
+            if (!give(good, amount)) {
+                return false;
+            }
+            for (int i = 0; i < amount; i++) {
+                coins += Math.max(LOWEST_PRICE, price - i);
+            }
+            return true;
+        }
+
         boolean hire() {
             if (workers >= 5 || !pay(5)) {
                 return false;
@@ -653,27 +662,23 @@ public final class SaltMarket {
             return true;
         }
 
-        /** How many of a good the end of a round with this weather takes. */
-        int loss(int good, int weather) {
-            int over = Math.max(0, goods[SALT] + goods[FISH] + goods[CLOTH] - room);
-            int fish = Math.min(goods[FISH], over);
-            int salt = Math.min(goods[SALT], over - fish);
-            switch (good) {
-                case SALT: return weather == RAIN ? salt + (goods[SALT] - salt + 1) / 2 : salt;
-                case FISH: return fish;
-                default: return over - fish - salt;
-            }
-        }
-
-        /** Loses goods by room and rain, and answers how many. */
+        /** Loses what has no room, and then what the rain takes; answers how many goods that are. */
         int loseGoods(int weather) {
-            int salt = loss(SALT, weather);
-            int fish = loss(FISH, weather);
-            int cloth = loss(CLOTH, weather);
-            goods[SALT] -= salt;
-            goods[FISH] -= fish;
-            goods[CLOTH] -= cloth;
-            return salt + fish + cloth;
+            int lost = 0;
+            for (int good : LOSING_ORDER) {
+                int over = goods[SALT] + goods[FISH] + goods[CLOTH] - room;
+                int gone = over < goods[good] ? over : goods[good];
+                if (gone > 0) {
+                    goods[good] -= gone;
+                    lost += gone;
+                }
+            }
+            if (weather == RAIN) {
+                int gone = (goods[SALT] + 1) / 2;
+                goods[SALT] -= gone;
+                lost += gone;
+            }
+            return lost;
         }
     }
 
@@ -738,7 +743,7 @@ public final class SaltMarket {
         int lost = 0;
         long x = 0;
 
-        // The rest is no part of the state: it holds the answers of tryPlacing and findBest.
+        // The rest is no part of the state: what a player would be, and the answers of findBest.
         final Player after = new Player();
         int bestWorth = NONE;
         int bestPlace = NONE;
@@ -780,8 +785,8 @@ public final class SaltMarket {
             for (int good = 0; good < GOODS; good++) {
                 prices[good] = FIRST_PRICE[good];
             }
-            x = seed;
-            throwDie();
+            x = nextX(seed);
+            weather = weatherOf(x);
         }
 
         void copyFrom(Game other) {
@@ -870,11 +875,6 @@ public final class SaltMarket {
             return leader;
         }
 
-        void throwDie() {
-            x = nextX(x);
-            weather = weatherOf(x);
-        }
-
         // ---- placing
 
         /** Whose worker a placing would bump; NONE if there is a free spot, or no other one's worker. */
@@ -883,24 +883,20 @@ public final class SaltMarket {
             return there.count < settings[SPOTS] ? NONE : there.ownerAt(there.findOther(turn));
         }
 
-        /** Makes `after` what the player would be behind a placing; answers false if it is not possible. */
+        /**
+         * Makes `after` what the player would be behind a placing; answers false if it is not possible.
+         * Nothing else changes, the prices neither.
+         */
         boolean tryPlacing(int place, int choice) {
             if (!hasTurn()) {
                 return false;
             }
             after.copyFrom(players[turn]);
             after.hand--;
-            return payForSpot(place) && usePlace(place, choice);
-        }
-
-        boolean payForSpot(int place) {
-            if (places[place].count < settings[SPOTS]) {
-                return true;
+            boolean full = places[place].count >= settings[SPOTS];
+            if (full && (findBumped(place) == NONE || !after.pay(settings[TOLL]))) {
+                return false;
             }
-            return findBumped(place) != NONE && after.pay(settings[TOLL]);
-        }
-
-        boolean usePlace(int place, int choice) {
             switch (place) {
                 case PANS:
                     after.gain(SALT, weather);
@@ -911,23 +907,12 @@ public final class SaltMarket {
                 case LOOM:
                     return after.weave(choice);
                 case STALL:
-                    return sell(choice / 10, choice % 10);
+                    return after.sell(choice / 10, choice % 10, prices[choice / 10]);
                 case HALL:
                     return after.hire();
                 default:
                     return after.buildRoom();
             }
-        }
-
-        /** Sells for the player, but leaves the price: the placing may be none that is done. */
-        boolean sell(int good, int amount) {
-            if (!after.give(good, amount)) {
-                return false;
-            }
-            for (int i = 0; i < amount; i++) {
-                after.coins += Math.max(LOWEST_PRICE, prices[good] - i);
-            }
-            return true;
         }
 
         /** Places a worker; answers false, and changes nothing, if it is not possible. */
@@ -953,25 +938,24 @@ public final class SaltMarket {
 
         /** What a placing would bring; NONE if it is not possible. */
         int worth(int place, int choice) {
-            return tryPlacing(place, choice) ? EVEN + after.total() - players[turn].total() : NONE;
+            return tryPlacing(place, choice) ? worthOfTried() : NONE;
+        }
+
+        int worthOfTried() {
+            return EVEN + after.total() - players[turn].total();
         }
 
         /** Finds the best placing; answers false if none is possible. */
         boolean findBest() {
             bestWorth = NONE;
             for (int i = 0; i < PLACING_PLACES.length && i < PLACING_CHOICES.length; i++) {
-                compareWithBest(PLACING_PLACES[i], PLACING_CHOICES[i]);
+                if (tryPlacing(PLACING_PLACES[i], PLACING_CHOICES[i]) && worthOfTried() > bestWorth) {
+                    bestWorth = worthOfTried();
+                    bestPlace = PLACING_PLACES[i];
+                    bestChoice = PLACING_CHOICES[i];
+                }
             }
             return bestWorth != NONE;
-        }
-
-        void compareWithBest(int place, int choice) {
-            int worth = worth(place, choice);
-            if (worth > bestWorth) {
-                bestWorth = worth;
-                bestPlace = place;
-                bestChoice = choice;
-            }
         }
 
         // ---- turns and rounds
@@ -1002,6 +986,13 @@ public final class SaltMarket {
             }
         }
 
+        /** How many of a good the end of this round would take from a player. */
+        int lossOf(int p, int good) {
+            after.copyFrom(players[p]);
+            after.loseGoods(weather);
+            return players[p].goods[good] - after.goods[good];
+        }
+
         int playerBehind(int p) {
             return p + 1 < count ? p + 1 : 0;
         }
@@ -1029,7 +1020,8 @@ public final class SaltMarket {
             for (int good = 0; good < GOODS; good++) {
                 prices[good] = Math.min(HIGHEST_PRICE, prices[good] + 1);
             }
-            throwDie();
+            x = nextX(x);
+            weather = weatherOf(x);
             ended++;
             first = playerBehind(first);
             turn = first;

@@ -554,5 +554,15 @@ public final class ActionTest {
             x.undo();
             CHECK.same("15: the state ahead of action " + i, views[i], View.of(x));
         }
+        SaltMarket y = Markets.begun(2, 0);
+        y.set(2, 3);
+        y.place(0, 0);
+        y.pass();
+        y.place(0, 0);
+        y.pass();
+        CHECK.due("15: six are lost", 6, () -> y.about(11));
+        CHECK.due("15: undo() of the round's end", 5, () -> y.undo());
+        CHECK.due("15: nothing is lost then", 0, () -> y.about(11));
+        CHECK.due("15: the salt is back", 12, () -> y.player(0, 1));
     }
 }

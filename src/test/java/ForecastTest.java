@@ -9,6 +9,7 @@ public final class ForecastTest {
         bumps();
         best();
         bestOfSeveral();
+        bestIsGreatestBrings();
         noneIsBest();
         loses();
         goesOn();
@@ -155,6 +156,40 @@ public final class ForecastTest {
         y.set(2, 1);
         y.place(0, 0);
         dueBest("the lowest place of pans and pier", y, 101, 0, 0);
+    }
+
+    /** In many states the best placing is looked for by brings() alone. */
+    private static void bestIsGreatestBrings() {
+        for (int seed = 0; seed < 300; seed++) {
+            SaltMarket x = Markets.begun(2 + seed % 3, seed);
+            x.set(0, 12);
+            x.set(1, seed % 6);
+            x.set(2, 1 + seed / 6 % 3);
+            for (int turn = 0; turn < 40; turn++) {
+                int[] wanted = {-1, -1, -1};
+                for (int place = 0; place <= 5; place++) {
+                    for (int choice = 0; choice <= 23; choice++) {
+                        if (Model.isChoice(place, choice) && x.brings(place, choice) > wanted[0]) {
+                            wanted = new int[] {x.brings(place, choice), place, choice};
+                        }
+                    }
+                }
+                dueBest("seed " + seed + ", turn " + turn, x, wanted[0], wanted[1], wanted[2]);
+                takeAnyTurn(x, seed * 31 + turn * 7);
+            }
+        }
+    }
+
+    private static void takeAnyTurn(SaltMarket x, int any) {
+        for (int i = 0; i < 6; i++) {
+            int place = (any + i) % 6;
+            int choice = place == 2 ? 1 : place == 3 ? any % 3 * 10 + 1 : 0;
+            if (x.brings(place, choice) > 0) {
+                x.place(place, choice);
+                return;
+            }
+        }
+        x.pass();
     }
 
     private static void noneIsBest() {

@@ -150,6 +150,15 @@ public final class TextTest {
         CHECK.due("5: the round has ended", 1, () -> x.about(3));
         CHECK.due("5: the weather", 1, () -> x.about(2));
         CHECK.due("5: the text stays", 14, () -> x.clearText());
+        // Weather 6, then 1: the fish of the one is sold for 3, a cloth of the other's two for 6.
+        SaltMarket y = Markets.loaded("S200nnm11l1-m21");
+        CHECK.due("5: coins of the fish", 5 + 3, () -> y.player(0, 0));
+        CHECK.due("5: coins of the cloth", 5 - 1 + 6, () -> y.player(1, 0));
+        CHECK.due("5: a cloth is left", 1, () -> y.player(1, 3));
+        // Weather 2: of five fish three are woven, then two of the six cloth are sold.
+        SaltMarket z = Markets.loaded("S210n-l3m22");
+        CHECK.due("5: coins of two cloth", 5 - 3 + 6 + 5, () -> z.player(0, 0));
+        CHECK.due("5: four cloth are left", 4, () -> z.player(0, 3));
         seedOf("S208", 8);
         seedOf("S380", 80);
         seedOf("S499", 99);
