@@ -100,10 +100,12 @@ public final class SaltMarket {
     /** Does the moves of the text, and answers how many are left out. */
     private int doMoves() {
         int left = 0;
-        for (int at = Text.HEAD; at < text.length; at += text.moveLength(at)) {
+        int at = Text.HEAD;
+        for (int i = 0; i < Text.LIMIT && at < text.length; i++) {
             if (!doMove(at)) {
                 left++;
             }
+            at += text.moveLength(at);
         }
         return left;
     }
@@ -481,11 +483,13 @@ public final class SaltMarket {
                     return at;
                 }
             }
-            for (int at = HEAD; at < length; at += moveLength(at)) {
+            int at = HEAD;
+            for (int i = 0; i < LIMIT && at < length; i++) {
                 int fault = findMoveFault(at);
                 if (fault != NONE) {
                     return fault;
                 }
+                at += moveLength(at);
             }
             return NONE;
         }
