@@ -197,7 +197,7 @@ public final class SaltMarket {
     }
 
     public int set(int what, int v) throws IllegalArgumentException {
-        if (!isSetting(what) || !isSettingValue(what, v)) {
+        if (!isSettingValue(what, v)) {
             throw new IllegalArgumentException("there is no such setting or value");
         }
         history.remember(now);
@@ -337,7 +337,7 @@ public final class SaltMarket {
     }
 
     private boolean trialSets(int what, int v) {
-        if (!isSetting(what) || !isSettingValue(what, v)) {
+        if (!isSettingValue(what, v)) {
             return false;
         }
         trial.settings[what] = v;
@@ -421,7 +421,7 @@ public final class SaltMarket {
     }
 
     private static boolean isSettingValue(int what, int v) {
-        return v >= LEAST_SETTING[what] && v <= GREATEST_SETTING[what];
+        return isSetting(what) && v >= LEAST_SETTING[what] && v <= GREATEST_SETTING[what];
     }
 
     private static boolean isChoice(int place, int choice) {
